@@ -648,7 +648,6 @@ public final class PortRooms {
     private static final class Holdings {
         private static final int WHOLE = 1000000;
         private static final long MOST_SHARE = 2000000000L;
-        private static final int ALL_COMPANIES = (1 << COMPANIES) - 1;
 
         final int[] owner = new int[MOST_HOLDINGS];
         final int[] company = new int[MOST_HOLDINGS];
@@ -740,7 +739,7 @@ public final class PortRooms {
                 return 0;
             }
             long sum = 0;
-            for (int c = 0; c < COMPANIES; c++) {
+            for (int c = 0; c < COMPANIES && next >>> c != 0; c++) {
                 if (hasBit(next, c)) {
                     int left = value * part[from * COMPANIES + c] / HUNDRED;
                     sum += c == target ? left : along(PEOPLE + c, target, left, free & ~(1 << c), depth + 1);
