@@ -574,7 +574,8 @@ public final class PortRooms {
 
     private int sizeOfStopped(int crate) {
         leave(13);
-        return -askMark(crate, STOPPED);
+        // Asked anew it is still a stopped one.
+        return -markOfStopped(crate);
     }
 
     private int markLent(int crate) {
@@ -594,7 +595,8 @@ public final class PortRooms {
 
     private int markOfClean(int crate) {
         leave(23);
-        return markLent(crate) + askSize(crate, CLEAN);
+        // Asked anew it is still a clean one, which has no size of its own.
+        return markLent(crate) + sizeLent(crate);
     }
 
     /** Sheets are rows of one width, laid once and used again; the lane says which bits an item keeps. */

@@ -8,6 +8,7 @@ public final class AskedTest {
     public static void main(String[] args) {
         day();
         kind();
+        kindOfLittle();
         kindByDays();
         as();
         ask();
@@ -53,6 +54,15 @@ public final class AskedTest {
         }
         Due.due("P34 no crate", x.kind(6), BAD);
         Due.due("P34 crate below", x.kind(-1), BAD);
+    }
+
+    private static void kindOfLittle() {
+        PortRooms x = new PortRooms(0);
+        x.crate(0, 1);
+        x.pledge(0, 0, 1, 0, 0);
+        Due.due("P34 a sum of 1 is owed", x.kind(0), 1);
+        x.pledge(0, 0, 1, 0, 0);
+        Due.due("P34 a sum of 2 is more", x.kind(0), 2);
     }
 
     private static void kindByDays() {

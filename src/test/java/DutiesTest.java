@@ -82,7 +82,7 @@ public final class DutiesTest {
         String[] texts = {
             "sold", "sold ", "sold\n\n part", "sold part 5", "sold > ", "sold > 5", "sold part 5;shown",
             "part 5;", "5", ";", ">", "  sole part 5;", "sol part 5;", "solds part 5;", "mendedx part 5;",
-            "mendedpart 5;", "soldpart 5;", "sold parts 5;", "sold par 5;", "sold sold 5;", "sold 5;", "sold ;",
+            "mendedpart 5;", "soldpart 5;", "soldz part 5;", "bold part 5;", "asold part 5;", "sold aart 5;", "sold parts 5;", "sold par 5;", "sold sold 5;", "sold 5;", "sold ;",
             "sold > part 5;", "sold > > 5 part 5;", "sold > ; part", "sold > 12345 part 5;", "sold > 5 5 part 5;",
             "sold part part;", "sold part >5;", "sold part ;", "sold part 00001;", "sold part 5 5;", "sold part 5 >",
             "sold part 5 sold", "sold part 5;;", "Sold part 5;", "sold Part 5;", "sold\tpart 5;", "sold\rpart 5;",
@@ -92,7 +92,7 @@ public final class DutiesTest {
         int[] want = {
             4, 5, 11, 11, 7, 8, 17,
             0, 0, 0, 0, 2, 0, 0, 0,
-            0, 0, 5, 5, 5, 5, 5,
+            0, 0, 0, 0, 0, 5, 5, 5, 5, 5, 5,
             7, 7, 7, 7, 9,
             10, 10, 10, 10, 12, 12,
             12, 12, 0, 5, 4, 4,
@@ -102,7 +102,7 @@ public final class DutiesTest {
         for (int k = 0; k < texts.length; k++) {
             PortRooms x = new PortRooms(0);
             Due.due("P19 \"" + texts[k] + "\"", read(x, texts[k]), -1000100 - want[k]);
-            Due.due("P20 \"" + texts[k] + "\"", x.fault(), k >= 45 && k <= 49 ? 2 : 1);
+            Due.due("P20 \"" + texts[k] + "\"", x.fault(), k >= 49 && k <= 53 ? 2 : 1);
             Due.due("P19 is empty then", x.count(9), 0);
         }
     }
@@ -205,6 +205,12 @@ public final class DutiesTest {
         Due.due("P22 an earlier day", x.duty(0, 0), 4);
         Due.due("P22 the other crate", x.duty(1, 0), 1);
         Due.due("P22 the other crate's day", x.duty(1, 1), 1);
+        PortRooms y = new PortRooms(0);
+        y.crate(0, 100);
+        y.act(0, 0, 5, 0);
+        y.act(0, 1, 5, 0);
+        read(y, "shown part 2; sold part 1;");
+        Due.due("P22 the one told first", y.duty(0, 0), 1);
     }
 
     private static void dutyBad() {

@@ -155,6 +155,14 @@ public final class LooksTest {
         x.opened(0, 10, 9999, 3);
         Due.due("P30 of one day as told", x.verdict(0), 2);
         Due.due("P30 another crate", x.verdict(1), 0);
+        PortRooms y = new PortRooms(0);
+        y.crate(0, 1);
+        y.opened(0, 10, 1000, 3);
+        y.opened(0, 10, 1100, 3);
+        y.opened(0, 11, 1110, 3);
+        Due.due("P30 by the one told first", y.verdict(0), 2);
+        y.opened(0, 9, 1060, 0);
+        Due.due("P30 by an earlier one", y.verdict(0), 1);
     }
 
     private static void list() {
@@ -211,6 +219,18 @@ public final class LooksTest {
         x.list(3, 6, 6);
         Due.due("P32 the third another day", x.barred(0, 5), 0);
         Due.due("P32 two with 50", x.barred(0, 6), 1);
+        PortRooms y = new PortRooms(0);
+        y.crate(10, 1);
+        int[] told = {0, 10, 49, 2, 11, 99, 11, 10, 1, 3, 12, 99, 12, 13, 1, 13, 10, 1, 4, 14, 1, 14, 15, 1, 15, 10, 1};
+        for (int k = 0; k < told.length; k += 3) {
+            y.hold(told[k], told[k + 1], told[k + 2], 0);
+        }
+        y.list(0, 0, 9);
+        y.list(2, 0, 9);
+        y.list(3, 0, 9);
+        Due.due("P32 499999 together", y.barred(0, 5), 0);
+        y.list(4, 0, 9);
+        Due.due("P32 500000 together", y.barred(0, 5), 1);
     }
 
     private static void barredByPapers() {
@@ -224,6 +244,10 @@ public final class LooksTest {
         Due.due("P32 known", x.barred(0, 20), 1);
         Due.due("P32 until he sold", x.barred(0, 29), 1);
         Due.due("P32 he sold", x.barred(0, 30), 0);
+        PortRooms y = new PortRooms(0);
+        y.crate(0, 1);
+        y.list(0, 3, 3);
+        Due.due("P32 the least person alone", y.barred(0, 3), 1);
     }
 
     /** Shares together go beyond what an int holds. */

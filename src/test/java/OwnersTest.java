@@ -111,6 +111,7 @@ public final class OwnersTest {
         for (int k = 0; k < days.length; k++) {
             Due.due("P8 on day " + days[k], x.percent(1, 10, days[k]), want[k]);
         }
+        Due.due("P8 an earlier day again", x.percent(1, 10, 10), 60);
         Due.due("P8 another owner", x.percent(2, 10, 15), 8);
         Due.due("P8 another company", x.percent(1, 11, 15), 9);
         Due.due("P8 a company's", x.percent(11, 10, 15), 0);
@@ -166,6 +167,8 @@ public final class OwnersTest {
         Due.due("P9 1 is left", y.share(0, 12, 0), 1);
         Due.due("P9 99 of 1 are cut to none", y.share(0, 13, 0), 0);
         Due.due("P9 cut each time, not at the end", y.share(0, 15, 0), 0);
+        y.hold(12, 16, 100, 0);
+        Due.due("P9 1 goes on whole", y.share(0, 16, 0), 1);
     }
 
     private static void shareOverRings() {
@@ -229,6 +232,9 @@ public final class OwnersTest {
         x.hold(17, 18, 1, 0);
         Due.due("P10 the least that is any", x.truly(17, 0), 9);
         Due.due("P10 cut to nothing is none", x.truly(18, 0), NONE);
+        PortRooms y = new PortRooms(0);
+        y.hold(10, 11, 100, 0);
+        Due.due("P10 a company is no true owner", y.truly(11, 0), NONE);
     }
 
     private static void rings() {

@@ -50,6 +50,10 @@ public final class SheetsTest {
         x.set(6, 2, 44);
         x.sheet(6, 2, 8);
         Due.due("P2 items are 0, so no company is told", x.holds(6, 0, 1), 0);
+        x.set(6, 1, 10);
+        x.set(6, 2, 44);
+        Due.due("P2 the others are 0", x.holds(6, 0, 1), 1);
+        Due.due("P2 owner 0 from day 0 on", x.percent(0, 10, 0), 44);
         Due.due("P2 count", x.count(0), 3);
     }
 
