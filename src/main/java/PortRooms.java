@@ -1209,6 +1209,9 @@ public final class PortRooms {
 
         int worstOf(int itsCrate) {
             int first = firstOf(itsCrate);
+            if (first < 0) {
+                return SAME;
+            }
             int worst = SAME;
             for (int k = 0; k < count; k++) {
                 // The first one is the same as itself, so it need not be left out.

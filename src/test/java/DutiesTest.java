@@ -113,6 +113,8 @@ public final class DutiesTest {
         breaks("mendedx part 1;", 0, 1);
         breaks("mendedpart 1;", 0, 1);
         breaks("soldpart 1;", 0, 1);
+        breaks("solda part 1;", 0, 1);
+        breaks("soldz part 1;", 0, 1);
         breaks("sold partpart 1;", 5, 1);
         breaks("sold part 1;abcdefghijklmnopqrstuvwxyz", 12, 1);
         breaks("Sold part 1;", 0, 1);
@@ -366,7 +368,8 @@ public final class DutiesTest {
         Due.range("day", 0, 9999, v -> withActs().act(0, 0, v, 0));
         Due.range("days", 0, 999, v -> withActs().act(0, 0, 0, v));
         for (int what = 0; what < 4; what++) {
-            Due.due("act " + what, withText("mended part 4;out part 3;shown part 2;sold part 1;", what, 0, 0).duty(0, 2), 3 - what);
+            PortRooms x = withText("mended part 4;out part 3;shown part 2;sold part 1;", what, 0, 0);
+            Due.due("act " + what, x.duty(0, 2), 3 - what);
         }
         Due.due("the last day", withText("out part 1;", 2, 9999, 999).duty(0, 1), 9999);
         Due.due("the first day", withText("out part 1;", 2, 0, 0).duty(0, 1), 0);

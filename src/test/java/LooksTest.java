@@ -45,7 +45,8 @@ public final class LooksTest {
         Due.due("all 0", new PortRooms(0).lot(0, 0, 1000000), 0);
         Due.due("a seed below 0 takes the crate away", new PortRooms(-1000003).lot(1, 0, 1000000), 0);
         Due.due("a seed below 0 takes the day away", new PortRooms(-8191).lot(0, 1, 1000000), 0);
-        Due.due("the crate is as much seed", new PortRooms(5).lot(11, 3, 999983), new PortRooms(5 + 11000033).lot(0, 3, 999983));
+        Due.due("the crate is as much seed", new PortRooms(5).lot(11, 3, 999983),
+            new PortRooms(5 + 11 * 1000003).lot(0, 3, 999983));
         Due.due("the day is as much seed", new PortRooms(5).lot(2, 9999, 999983),
             new PortRooms(5 + 9999 * 8191).lot(2, 0, 999983));
         Due.due("beyond what an int holds", new PortRooms(Integer.MAX_VALUE).lot(11, 9999, 1000000), 601997);
@@ -169,6 +170,14 @@ public final class LooksTest {
         Due.due("by the one told first", y.verdict(0), SWAPPED);
         y.opened(0, 0, 1060, 0);
         Due.due("by one of day 0", y.verdict(0), DOUBT);
+        PortRooms z = withCrate();
+        z.crate(0, 1);
+        z.opened(0, 8, 900, 0);
+        z.opened(0, 7, 500, 0);
+        z.opened(1, 9, 500, 0);
+        z.opened(1, 9, 500, 0);
+        Due.due("the one told first may be a later one", z.verdict(0), SWAPPED);
+        Due.due("an earlier one of another crate is not meant", z.verdict(1), SAME);
     }
 
     private static void same() {
@@ -209,7 +218,8 @@ public final class LooksTest {
 
     private static void verdictOfAll() {
         Due.says(0, "VERDICT of a CRATE: SWAPPED (2), if some later one is, else DOUBT (1), if some is, else SAME (0).");
-        int[][] weights = {{500, 510, 490}, {500, 510, 520}, {500, 520, 510}, {500, 520, 700}, {500, 700, 520}, {500, 700, 500}};
+        int[][] weights = {
+            {500, 510, 490}, {500, 510, 520}, {500, 520, 510}, {500, 520, 700}, {500, 700, 520}, {500, 700, 500}};
         int[] want = {SAME, DOUBT, DOUBT, SWAPPED, SWAPPED, SWAPPED};
         for (int k = 0; k < want.length; k++) {
             PortRooms x = withCrate();
@@ -252,8 +262,8 @@ public final class LooksTest {
     }
 
     private static void barredByOne() {
-        Due.says(0, "A CRATE is BARRED on a day, if of those on a LIST that day some one has a SHARE of 500000 or more in its "
-            + "OWNER that day");
+        Due.says(0, "A CRATE is BARRED on a day, if of those on a LIST that day some one has a SHARE of 500000 or more "
+            + "in its OWNER that day");
         PortRooms x = new PortRooms(0);
         x.crate(3, 1);
         x.crate(10, 1);
@@ -365,6 +375,10 @@ public final class LooksTest {
         Due.due("one less", x.drawn(0, 12), 29);
         Due.due("the last of twelve", stored(0, 11).drawn(5, 1), 2048);
         Due.due("no crates at all", new PortRooms(0).drawn(0, 12), 0);
+        PortRooms y = withCrate();
+        y.crate(0, 1);
+        y.move(1, 0);
+        Due.due("crates that are not there are not drawn", y.drawn(0, 12), 2);
     }
 
     private static void drawnRefused() {

@@ -131,7 +131,8 @@ final class PlainPort {
     private int has(int owner, int company, int day) {
         Holding latest = null;
         for (Holding h : holdings) {
-            if (h.owner == owner && h.company == company && h.day <= day && (latest == null || h.day >= latest.day)) latest = h;
+            boolean isMeant = h.owner == owner && h.company == company && h.day <= day;
+            if (isMeant && (latest == null || h.day >= latest.day)) latest = h;
         }
         return latest == null ? 0 : latest.percent;
     }
@@ -414,7 +415,8 @@ final class PlainPort {
 
     int verdict(int crate) {
         if (!there(crate)) return BAD;
-        List<Opened> row = openings.stream().filter(o -> o.crate == crate).sorted(Comparator.comparingInt(Opened::day)).toList();
+        List<Opened> row = openings.stream().filter(o -> o.crate == crate)
+            .sorted(Comparator.comparingInt(Opened::day)).toList();
         int worst = 0;
         for (int k = 1; k < row.size(); k++) {
             Opened first = row.get(0), later = row.get(k);

@@ -10,9 +10,11 @@ import java.util.regex.Pattern;
 /** Every sentence of the document's terms and promises is quoted by a test, and every quote stands in the document. */
 public final class QuotesTest {
     private static final Path DOCUMENT = Path.of("../shared/DOC.md"), TESTS = Path.of("src/test/java");
-    private static final Pattern SAYS = Pattern.compile("Due\\.says\\((\\d+), (\"[^\"]*\"(?:\\s*\\+\\s*\"[^\"]*\")*)\\);");
+    private static final Pattern SAYS = Pattern.compile(
+        "Due\\.says\\((\\d+), (\"[^\"]*\"(?:\\s*\\+\\s*\"[^\"]*\")*)\\);");
     /** What no test can be about: what is free, and what the interface says ahead of calls. */
-    private static final String[] NOT_ASKED = {"what later calls answer is free.", "Ahead of the calls .*? the interface says: .*?\\."};
+    private static final String[] NOT_ASKED = {
+        "what later calls answer is free.", "Ahead of the calls .*? the interface says: .*?\\."};
 
     private final Map<Integer, String> sections = new TreeMap<>();
     private final Map<Integer, StringBuilder> left = new TreeMap<>();

@@ -6,7 +6,7 @@ import java.util.Random;
 
 /** Random runs of 512 calls, each answer compared with PlainPort's; the runs are the same each time. */
 public final class RandomRunsTest {
-    private static final int RUNS = 1500, CALLS = 512;
+    private static final int RUNS = 1500, CALLS = 512, MANY_CALLS = 100000;
     /** Each call, and for each of its numbers what it is about. */
     private static final String[] CALL = {
         "sheet sheet lane size", "set sheet place item", "copy sheet place sheet place size", "drop sheet",
@@ -47,7 +47,23 @@ public final class RandomRunsTest {
         for (int run = 0; run < RUNS; run++) {
             new RandomRunsTest(run).go(run);
         }
+        for (int run = 0; run < 5; run++) {
+            new RandomRunsTest(run).goOn();
+        }
         Due.end();
+    }
+
+    /** Any numbers, and far more calls than are promised: no call throws, though what these answer is free. */
+    private void goOn() throws ReflectiveOperationException {
+        for (int k = 0; k < MANY_CALLS; k++) {
+            String[] parts = CALL[random.nextInt(CALL.length)].split(" ");
+            Object[] numbers = new Object[parts.length - 1];
+            for (int j = 0; j < numbers.length; j++) {
+                int v = random.nextInt(9) == 0 ? random.nextInt() : number(parts[j + 1]);
+                numbers[j] = parts[j + 1].equals("long") ? (Object) random.nextLong() : (Object) v;
+            }
+            method(PortRooms.class, parts[0], numbers).invoke(port, numbers);
+        }
     }
 
     private void go(int run) throws ReflectiveOperationException {
@@ -139,15 +155,17 @@ public final class RandomRunsTest {
         }
     }
 
-    private boolean compare(int run, String name, Object[] numbers) throws ReflectiveOperationException {
+    private static Method method(Class<?> of, String name, Object[] numbers) throws NoSuchMethodException {
         Class<?>[] types = new Class<?>[numbers.length];
         for (int k = 0; k < types.length; k++) {
             types[k] = numbers[k] instanceof Long ? long.class : int.class;
         }
-        Method here = PortRooms.class.getMethod(name, types);
-        Method there = PlainPort.class.getDeclaredMethod(name, types);
-        int got = (Integer) here.invoke(port, numbers);
-        int want = (Integer) there.invoke(plain, numbers);
+        return of.getDeclaredMethod(name, types);
+    }
+
+    private boolean compare(int run, String name, Object[] numbers) throws ReflectiveOperationException {
+        int got = (Integer) method(PortRooms.class, name, numbers).invoke(port, numbers);
+        int want = (Integer) method(PlainPort.class, name, numbers).invoke(plain, numbers);
         told.add(name + Arrays.toString(numbers) + " " + want);
         if (got != want) {
             Due.due("run " + run + ", call " + told.size() + ": " + name + Arrays.toString(numbers), got, want);

@@ -169,7 +169,8 @@ public final class RefusedTest {
             x -> x.hold(10, 10, 1, 0), x -> x.hold(0, 10, -1, 0), x -> x.hold(0, 10, 101, 0), x -> x.hold(0, 10, 1, -1),
             x -> x.hold(0, 10, 1, 10000));
         bad("holds", x -> x.holds(-1, 0, 1), x -> x.holds(8, 0, 1), x -> x.holds(0, 0, 0), x -> x.holds(0, 0, 16));
-        bad("percent", x -> x.percent(20, 10, 0), x -> x.percent(0, 9, 0), x -> x.percent(10, 10, 0), x -> x.percent(0, 10, -1));
+        bad("percent", x -> x.percent(20, 10, 0), x -> x.percent(0, 9, 0), x -> x.percent(10, 10, 0),
+            x -> x.percent(0, 10, -1));
         bad("share", x -> x.share(10, 10, 0), x -> x.share(0, 20, 0), x -> x.share(0, 10, 10000));
         bad("truly", x -> x.truly(20, 0), x -> x.truly(0, 10000));
         bad("rings", x -> x.rings(-1), x -> x.rings(10000));
@@ -198,7 +199,8 @@ public final class RefusedTest {
     private void rooms() {
         bad("room", x -> x.room(6, 0, 0), x -> x.room(-1, 0, 0), x -> x.room(0, 2, 0), x -> x.room(0, 0, 13),
             x -> x.room(0, 0, -1), x -> x.room(0, 1, 1000001), x -> x.room(0, 1, -1));
-        bad("move", x -> x.move(5, 0), x -> x.move(-1, NONE), x -> x.move(0, 6), x -> x.move(0, -1), x -> x.move(0, NONE + 1));
+        bad("move", x -> x.move(5, 0), x -> x.move(-1, NONE), x -> x.move(0, 6), x -> x.move(0, -1),
+            x -> x.move(0, NONE + 1));
         refused("move to where it is", STATE, x -> x.move(0, 1));
         refused("move to none from none", STATE, x -> x.move(3, NONE));
         refused("move to where no air is", FULL, x -> x.move(0, 2));
@@ -209,7 +211,8 @@ public final class RefusedTest {
     private void looks() {
         bad("lot", x -> x.lot(12, 0, 1), x -> x.lot(0, -1, 1), x -> x.lot(0, 0, 0), x -> x.lot(0, 0, 1000001));
         bad("drawn", x -> x.drawn(10000, 1), x -> x.drawn(0, 13), x -> x.drawn(0, -1));
-        bad("often", x -> x.often(5, 0, 0, 1), x -> x.often(0, 1, 0, 1), x -> x.often(0, 0, 400, 1), x -> x.often(0, 0, 0, 13));
+        bad("often", x -> x.often(5, 0, 0, 1), x -> x.often(0, 1, 0, 1), x -> x.often(0, 0, 400, 1),
+            x -> x.often(0, 0, 0, 13));
         bad("opened", x -> x.opened(5, 0, 1, 0), x -> x.opened(0, 10000, 1, 0), x -> x.opened(0, 0, 0, 0),
             x -> x.opened(0, 0, 100001, 0), x -> x.opened(0, 0, 1, 256), x -> x.opened(0, 0, 1, -1));
         bad("verdict", x -> x.verdict(5), x -> x.verdict(-1));

@@ -119,7 +119,8 @@ public final class TermsTest {
     }
 
     private static void badIsFirst() {
-        Due.says(0, "Refusals are answers, the first of these that fits: BAD (a number is not as told; there is no such thing),");
+        Due.says(0, "Refusals are answers, the first of these that fits: "
+            + "BAD (a number is not as told; there is no such thing),");
         PortRooms x = full();
         Due.due("hold", x.hold(0, 9, 1, 0), BAD);
         Due.due("crate", x.crate(0, 0), BAD);
