@@ -97,7 +97,7 @@ public final class LooksTest {
         return stored(seed, 0, 1, 2, 3, 4, 5, 6, 7, 8, 9, 10, 11);
     }
 
-    /** Two crates' lots are never like ones in any run that could be found; so the least crate of these is not seen. */
+    /** No seed and day give two crates like lots (all were tried), so what is due of these is not seen. */
     private static void leastLots() {
         Due.says(0, "DRAWN on a day: of CRATES in ROOMS those with the least LOTS, as many as told "
             + "(of like LOTS the least CRATE).");
