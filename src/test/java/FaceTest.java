@@ -17,6 +17,8 @@ public final class FaceTest {
         "lot(int,int,int)", "drawn(int,int)", "often(int,int,int,int)", "opened(int,int,int,int)", "verdict(int)",
         "list(int,int,int)", "barred(int,int)", "day(int)", "kind(int)", "as(int,int)", "ask(int,int)", "trace(int)",
         "count(int)", "status()"};
+    private static final Set<Class<?>> CONSTANTS = Set.of(
+        int.class, long.class, boolean.class, char.class, String.class, int[].class, long[].class, char[].class, byte[].class);
 
     public static void main(String[] args) throws ReflectiveOperationException {
         Due.due("NONE", PortRooms.NONE, -1000000);
@@ -37,8 +39,23 @@ public final class FaceTest {
         for (Class<?> inside : PortRooms.class.getDeclaredClasses()) {
             boolean fits = Modifier.isStatic(inside.getModifiers()) && !Modifier.isPublic(inside.getModifiers());
             Due.due(inside + " is static and not public", fits ? 1 : 0, 1);
+            fields(inside);
         }
+        fields(PortRooms.class);
         Due.end();
+    }
+
+    /** LANGUAGE.md, rules 5 and 11: static fields are constants, and a class has some twenty others. */
+    private static void fields(Class<?> of) {
+        int others = 0;
+        for (Field f : of.getDeclaredFields()) {
+            if (!Modifier.isStatic(f.getModifiers())) {
+                others++;
+            } else if (!Modifier.isFinal(f.getModifiers()) || !CONSTANTS.contains(f.getType())) {
+                Due.fails(f + " is no constant");
+            }
+        }
+        Due.due(of + " has at most twenty fields", Math.max(others, 20), 20);
     }
 
     private static boolean isPrivate(Member m) {
@@ -60,6 +77,11 @@ public final class FaceTest {
         same(seen, new TreeSet<>(Arrays.asList(METHODS)));
         for (Method m : PortRooms.class.getDeclaredMethods()) {
             Due.due(m + " bears a public name", isPrivate(m) && seenNames.contains(m.getName()) ? 1 : 0, 0);
+        }
+        for (Class<?> inside : PortRooms.class.getDeclaredClasses()) {
+            for (Method m : inside.getDeclaredMethods()) {
+                Due.due(m + " bears a public name", seenNames.contains(m.getName()) ? 1 : 0, 0);
+            }
         }
     }
 
