@@ -717,7 +717,7 @@ public final class PortRooms {
                 return itsOwner == person ? WHOLE : 0;
             }
             int target = itsOwner - PEOPLE;
-            long sum = along(person, target, WHOLE, leadingTo(target), 0);
+            long sum = along(this, person, target, WHOLE, leadingTo(target), 0);
             return (int) Math.min(sum, MOST_SHARE);
         }
 
@@ -735,16 +735,16 @@ public final class PortRooms {
          * What comes to the target over all rows of owners that go on from here through companies that are still free.
          * Shares cut at each step, so rows that meet again cannot be added before their end.
          */
-        private long along(int from, int target, int value, int free, int depth) {
-            int next = has[from] & free;
+        private static long along(Holdings day, int from, int target, int value, int free, int depth) {
+            int next = day.has[from] & free;
             if (next == 0 || value == 0 || depth > COMPANIES) {
                 return 0;
             }
             long sum = 0;
             for (int c = 0; c < COMPANIES && next >>> c != 0; c++) {
                 if (hasBit(next, c)) {
-                    int left = value * part[from * COMPANIES + c] / HUNDRED;
-                    sum += c == target ? left : along(PEOPLE + c, target, left, free & ~(1 << c), depth + 1);
+                    int left = value * day.partOf(from, PEOPLE + c) / HUNDRED;
+                    sum += c == target ? left : along(day, PEOPLE + c, target, left, free & ~(1 << c), depth + 1);
                 }
             }
             return sum;
@@ -1152,6 +1152,7 @@ public final class PortRooms {
     private static final class Looks {
         private static final long CRATE_STEP = 1000003L, DAY_STEP = 8191L;
         private static final long FIRST_FACTOR = -7046029254386353131L, SECOND_FACTOR = -4658895280553007687L;
+        private static final long WITHOUT_SIGN = 0x7fffffffffffffffL;
 
         final int seed;
         final long[] lots = new long[MOST_CRATES];
@@ -1166,7 +1167,7 @@ public final class PortRooms {
             z ^= z >>> 29;
             z *= SECOND_FACTOR;
             z ^= z >>> 32;
-            return z & Long.MAX_VALUE;
+            return z & WITHOUT_SIGN;
         }
 
         void drawLots(int set, int day) {
